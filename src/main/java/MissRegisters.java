@@ -242,7 +242,7 @@ public final class MissRegisters {
     private boolean misses(int line, int ticket, int word, boolean stores) {
         Register register = findFreeRegister();
         Way chosen = chooseWay(line);
-        if (register == null || chosen == null || chosen.dirty && port.countWrites() >= MOST_WRITES) {
+        if (register == null || chosen == null || (chosen.dirty && port.countWrites() >= MOST_WRITES)) {
             return false;
         }
         counts[MISSES]++;
