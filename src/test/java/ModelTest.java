@@ -3,7 +3,8 @@ import java.util.Random;
 /** Long runs of calls, drawn from fixed seeds, whose every answer must be that of PlainModel. */
 public final class ModelTest {
     private static final int RUNS = 3000;
-    private static final int CALLS = 512;
+    // A step makes at most one access, so the tickets stay within the 512; looking at the state comes on top.
+    private static final int STEPS = 512;
     // Every kind of count must have come often over all runs, or the runs test too little.
     private static final int OFTEN = 5000;
 
@@ -29,7 +30,7 @@ public final class ModelTest {
         // Few lines make hits and joins, more of them misses; few ticks make stalls.
         int lines = 4 << random.nextInt(5);
         int stretch = 1 + random.nextInt(12);
-        for (int i = 0; i < CALLS; i++) {
+        for (int i = 0; i < STEPS; i++) {
             step(seed + "." + i + ": ", random, lines, stretch, x, model);
             if (i % 16 == 15) {
                 compareState(seed + "." + i + ": ", x, model);
@@ -106,13 +107,13 @@ public final class ModelTest {
     /** All 512 calls may give tickets; what later calls answer is free, but they end as their headings allow. */
     private void manyTicketsEnd() {
         MissRegisters x = new MissRegisters();
-        for (int i = 0; i < CALLS; i++) {
+        for (int i = 0; i < STEPS; i++) {
             int address = i % 256;
             check.due("await(" + address + ") number " + i, address, () -> x.await(address));
         }
         check.due("value(511)", 255, () -> x.value(511));
         check.due("count(0)", 512, () -> x.count(0));
-        for (int i = 0; i < CALLS; i++) {
+        for (int i = 0; i < STEPS; i++) {
             int address = i % 256;
             check.due("a late load", true, isNumberOrStall(Check.outcome(() -> x.load(address))));
             check.due("a late store", true, isNumberOrStall(Check.outcome(() -> x.store(address, 1))));
