@@ -3,13 +3,17 @@
  * true or false, that of delay and ahead is void, and argument and state stand for the exceptions.
  */
 final class Script {
+    // Nothing is promised of an object behind its 512th call, so no test may ask for more.
+    static final int MOST_CALLS = 512;
+
     private final Check check;
 
     Script(Check check) {
         this.check = check;
     }
 
-    void play(String title, String rows) {
+    /** The object on which the rows have been played. */
+    MissRegisters play(String title, String rows) {
         MissRegisters x = new MissRegisters();
         int number = 0;
         for (String row : rows.split("\n")) {
@@ -17,9 +21,11 @@ final class Script {
             String[] sides = row.trim().split(" = ");
             check.same(title + ", row " + number + ", " + sides[0], written(sides[1]), outcome(x, sides[0]));
         }
+        check.due(title + " keeps to the calls that an object has", true, number <= MOST_CALLS);
+        return x;
     }
 
-    private static String written(String answer) {
+    static String written(String answer) {
         switch (answer) {
             case "argument":
                 return "throws.IllegalArgumentException";
@@ -30,7 +36,7 @@ final class Script {
         }
     }
 
-    private static String outcome(MissRegisters x, String call) {
+    static String outcome(MissRegisters x, String call) {
         String[] parts = call.split(" ");
         try {
             return answer(x, parts[0], parts);
