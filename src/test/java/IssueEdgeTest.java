@@ -736,6 +736,18 @@ public final class IssueEdgeTest {
                 flush = 0
                 count 6 = 0
                 count 7 = 24""");
+        script.play("FLUSHING: 'put into the memory, and is clean': the way is not used, nor is a write put into the row", """
+                store 0 9 = 0
+                tick 3 = 1
+                await 16 = 16
+                flush = 1
+                request 0 = -1
+                load 32 = 2
+                way 0 0 = 208
+                way 0 1 = 4
+                request 0 = 8
+                request 1 = -1
+                count 6 = 0""");
         script.play("FLUSHING: 'only while the row is empty': not with a read in it, up to its last tick", """
                 store 0 9 = 0
                 flush = state
